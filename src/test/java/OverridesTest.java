@@ -1,0 +1,124 @@
+/** Promise 8: overrides. */
+public final class OverridesTest {
+    public static void main(String[] args) {
+        Due due = new Due();
+        unknown(due);
+        marks(due);
+        acrossPackages(due);
+        throughSeveral(due);
+        interfaces(due);
+        due.end();
+    }
+
+    private static void unknown(Due due) {
+        OverrideRules x = new OverrideRules();
+        x.type(Due.CLASS, 0, Due.NONE);
+        x.member(0, 0, 16, 0);
+        due.is("itself", x.overrides(0, 0), 0);
+        due.is("UNKNOWN", x.overrides(0, 1), Due.UNKNOWN);
+        due.is("UNKNOWN", x.overrides(1, 0), Due.UNKNOWN);
+        due.is("UNKNOWN", x.overrides(-1, 0), Due.UNKNOWN);
+        due.is("UNKNOWN", x.overrides(0, -1), Due.UNKNOWN);
+    }
+
+    /** What a member below with mark a is to one above with mark b, in one package. */
+    private static int pair(int a, int b, int packet) {
+        OverrideRules x = new OverrideRules();
+        x.type(Due.CLASS, 0, Due.NONE);
+        x.type(Due.CLASS, packet, 0);
+        x.member(0, 0, 16, b);
+        x.member(1, 0, 16, a);
+        return x.overrides(1, 0);
+    }
+
+    private static void marks(Due due) {
+        due.is("public, public", pair(1, 1, 0), 1);
+        due.is("private, public", pair(4, 1, 0), 1);
+        due.is("public, private", pair(1, 4, 0), 0);
+        due.is("static, public", pair(9, 1, 0), 0);
+        due.is("public, static", pair(1, 9, 0), 0);
+        due.is("static, static", pair(9, 9, 0), 0);
+        due.is("package, package", pair(0, 0, 0), 1);
+        due.is("public, package elsewhere", pair(1, 0, 1), 0);
+        due.is("public, protected elsewhere", pair(1, 2, 1), 1);
+        due.is("public, public elsewhere", pair(1, 1, 1), 1);
+        due.is("public, final", pair(1, 17, 1), 1);
+        OverrideRules x = new OverrideRules();
+        x.type(Due.CLASS, 0, Due.NONE);
+        x.type(Due.CLASS, 0, 0);
+        x.type(Due.CLASS, 0, Due.NONE);
+        x.member(0, 0, 16, 1);
+        x.member(1, 1, 16, 1);
+        x.member(2, 0, 16, 1);
+        due.is("another name", x.overrides(1, 0), 0);
+        due.is("not below", x.overrides(2, 0), 0);
+    }
+
+    private static OverrideRules chain(int[] packets, int[] marks) {
+        OverrideRules x = new OverrideRules();
+        for (int i = 0; i < packets.length; i++) {
+            x.type(Due.CLASS, packets[i], i - 1);
+            x.member(i, 0, 16, marks[i]);
+        }
+        return x;
+    }
+
+    private static void acrossPackages(Due due) {
+        OverrideRules x = chain(new int[] {0, 0, 1}, new int[] {0, 1, 1});
+        due.is("through a public one between", x.overrides(2, 0), 1);
+        x = chain(new int[] {0, 0, 1}, new int[] {0, 0, 1});
+        due.is("the one between is not open", x.overrides(2, 0), 0);
+        x = chain(new int[] {0, 1, 0}, new int[] {0, 0, 0});
+        due.is("back in the package", x.overrides(2, 0), 1);
+        due.is("not the one between", x.overrides(2, 1), 0);
+        x = chain(new int[] {0, 0, 1}, new int[] {0, 9, 1});
+        due.is("a static one between", x.overrides(2, 0), 0);
+        x = chain(new int[] {0, 0, 1}, new int[] {0, 4, 1});
+        due.is("a private one between", x.overrides(2, 0), 0);
+        x = chain(new int[] {0, 1, 2}, new int[] {0, 1, 1});
+        due.is("the one between does not reach it", x.overrides(2, 0), 0);
+    }
+
+    private static void throughSeveral(Due due) {
+        // 4 reaches 3, which is open; 3 reaches 1 by its package, 1 is open to nobody else,
+        // and 1's package is that of 0.
+        OverrideRules x = chain(new int[] {1, 1, 2, 1, 3}, new int[] {0, 0, 0, 1, 1});
+        due.is("3 over 1", x.overrides(3, 1), 1);
+        due.is("4 over 3", x.overrides(4, 3), 1);
+        due.is("4 over 2", x.overrides(4, 2), 0);
+        due.is("4 over 1", x.overrides(4, 1), 1);
+        due.is("4 over 0", x.overrides(4, 0), 1);
+        // Each link opens the next package.
+        x = chain(new int[] {0, 0, 1, 1, 2, 2, 3}, new int[] {0, 1, 0, 1, 0, 1, 1});
+        for (int o = 0; o < 6; o++) {
+            due.is("the last over " + o, x.overrides(6, o), 1);
+        }
+        // A package that opens only above o is of no use for o.
+        x = chain(new int[] {0, 1, 0, 2}, new int[] {1, 0, 0, 1});
+        due.is("over the open one at the top", x.overrides(3, 0), 1);
+        due.is("not over 1", x.overrides(3, 1), 0);
+        due.is("not over 2", x.overrides(3, 2), 0);
+    }
+
+    private static void interfaces(Due due) {
+        OverrideRules x = new OverrideRules();
+        x.type(Due.INTERFACE, 0, Due.NONE);
+        x.type(Due.INTERFACE, 1, Due.NONE);
+        x.type(Due.CLASS, 2, Due.NONE);
+        x.type(Due.CLASS, 3, 2);
+        x.face(1, 0);
+        x.face(2, 1);
+        x.member(0, 0, 16, Due.ABSTRACT);
+        x.member(1, 0, 16, Due.DEFAULT);
+        x.member(3, 0, 16, 0);
+        x.member(0, 1, 16, Due.PRIVATE);
+        x.member(0, 2, 16, Due.STATIC);
+        x.member(3, 1, 16, 1);
+        x.member(3, 2, 16, 1);
+        due.is("interface over interface", x.overrides(1, 0), 1);
+        due.is("class over its parent's face", x.overrides(2, 1), 1);
+        due.is("class over that one's face, elsewhere", x.overrides(2, 0), 1);
+        due.is("not a private one", x.overrides(5, 3), 0);
+        due.is("not a static one", x.overrides(6, 4), 0);
+    }
+}
