@@ -505,8 +505,7 @@ public final class OverrideRules {
             if (!isOfNameBelow(m, o) || hasMark(m, STATIC) || !isInheritable(o)) {
                 return false;
             }
-            return types.isInterface(owners[o]) || hasMark(o, PUBLIC | PROTECTED)
-                    || isReached(m, o);
+            return types.isInterface(owners[o]) || isReached(m, o);
         }
 
         boolean isHiding(int m, int o) {

@@ -33,14 +33,8 @@ public final class FaultsTest {
         due.is("fault 0", x.fault(0, 0, 0), 6);
     }
 
-    /** Member 1 with the marks a, of a class below that of member 0 with the marks b. */
     private static OverrideRules pair(int a, int b) {
-        OverrideRules x = new OverrideRules();
-        x.type(Due.ABSTRACT_CLASS, 0, Due.NONE);
-        x.type(Due.ABSTRACT_CLASS, 0, 0);
-        x.member(0, 0, 16, b);
-        x.member(1, 0, 16, a);
-        return x;
+        return Trees.pair(a, b, 0);
     }
 
     private static void finalAndAccess(Due due) {
@@ -143,12 +137,14 @@ public final class FaultsTest {
         x.member(2, 1, 16, Due.ABSTRACT);
         x.member(2, 2, 16, Due.PUBLIC);
         x.member(1, 3, 16, Due.STATIC);
+        x.type(Due.INTERFACE, 0, Due.NONE);
+        x.member(4, 4, 16, Due.ABSTRACT);
         due.faults("an abstract class may leave them", x, 2);
         due.faults("a CLASS may not", x, 3, 9, 0, 0, 9, 0, 1, 9, 2, 2);
         x.member(3, 0, 16, Due.PUBLIC | Due.ABSTRACT);
-        due.faults("its own abstract one is told once", x, 3, 7, 5, Due.NONE, 9, 2, 2);
+        due.faults("its own abstract one is told once", x, 3, 7, 6, Due.NONE, 9, 2, 2);
         x.type(Due.CLASS, 0, 3);
-        due.faults("a CLASS below it", x, 4, 9, 5, 0, 9, 5, 1, 9, 2, 2, 9, 5, 5);
+        due.faults("a CLASS below it", x, 5, 9, 6, 0, 9, 6, 1, 9, 2, 2, 9, 6, 6);
     }
 
     private static void metByChance(Due due) {

@@ -21,40 +21,24 @@ public final class HidesTest {
         due.is("UNKNOWN", x.hides(0, -1), Due.UNKNOWN);
     }
 
-    /** Member 1 with the marks a, of a class below that of member 0 with the marks b. */
-    private static OverrideRules pair(int a, int b, int packet) {
-        OverrideRules x = new OverrideRules();
-        x.type(Due.CLASS, 0, Due.NONE);
-        x.type(Due.CLASS, packet, 0);
-        x.member(0, 0, 16, b);
-        x.member(1, 0, 16, a);
-        return x;
-    }
-
     private static void hiding(Due due) {
-        due.is("static, static", pair(9, 9, 1).hides(1, 0), 1);
-        due.is("the other way", pair(9, 9, 1).hides(0, 1), 0);
-        due.is("private static, static", pair(12, 9, 1).hides(1, 0), 1);
-        due.is("over a protected one", pair(9, 10, 1).hides(1, 0), 1);
-        due.is("over one of the package", pair(9, 8, 0).hides(1, 0), 1);
-        due.is("over one of another package", pair(9, 8, 1).hides(1, 0), 0);
-        due.is("over a private one", pair(9, 12, 0).hides(1, 0), 0);
-        due.is("one is not static", pair(1, 9, 0).hides(1, 0), 0);
-        due.is("the other is not static", pair(9, 1, 0).hides(1, 0), 0);
-        due.is("neither is static", pair(1, 1, 0).hides(1, 0), 0);
-        OverrideRules x = pair(9, 9, 0);
+        due.is("static, static", Trees.pair(9, 9, 1).hides(1, 0), 1);
+        due.is("the other way", Trees.pair(9, 9, 1).hides(0, 1), 0);
+        due.is("private static, static", Trees.pair(12, 9, 1).hides(1, 0), 1);
+        due.is("over a protected one", Trees.pair(9, 10, 1).hides(1, 0), 1);
+        due.is("over one of the package", Trees.pair(9, 8, 0).hides(1, 0), 1);
+        due.is("over one of another package", Trees.pair(9, 8, 1).hides(1, 0), 0);
+        due.is("over a private one", Trees.pair(9, 12, 0).hides(1, 0), 0);
+        due.is("one is not static", Trees.pair(1, 9, 0).hides(1, 0), 0);
+        due.is("the other is not static", Trees.pair(9, 1, 0).hides(1, 0), 0);
+        due.is("neither is static", Trees.pair(1, 1, 0).hides(1, 0), 0);
+        OverrideRules x = Trees.pair(9, 9, 0);
         x.member(0, 1, 16, 9);
         due.is("another name", x.hides(1, 2), 0);
     }
 
     private static void notThrough(Due due) {
-        OverrideRules x = new OverrideRules();
-        x.type(Due.CLASS, 0, Due.NONE);
-        x.type(Due.CLASS, 0, 0);
-        x.type(Due.CLASS, 1, 1);
-        for (int t = 0; t < 3; t++) {
-            x.member(t, 0, 16, t == 0 ? 8 : 9);
-        }
+        OverrideRules x = Trees.chain(new int[] {0, 0, 1}, new int[] {8, 9, 9});
         due.is("hides the one between", x.hides(2, 1), 1);
         due.is("which hides the first", x.hides(1, 0), 1);
         due.is("and yet does not hide that", x.hides(2, 0), 0);
@@ -72,13 +56,13 @@ public final class HidesTest {
     }
 
     private static void mixing(Due due) {
-        due.faults("static under a plain one", pair(9, 1, 1), 1, 1, 1, 0);
-        due.faults("plain under a static one", pair(1, 9, 1), 1, 1, 1, 0);
-        due.faults("under a protected one", pair(1, 10, 1), 1, 1, 1, 0);
-        due.faults("under one of the package", pair(1, 8, 0), 1, 1, 1, 0);
-        due.faults("under one of another package", pair(1, 8, 1), 1);
-        due.faults("under a private static one", pair(1, 12, 0), 1);
-        due.faults("static under a private one", pair(9, 4, 0), 1);
+        due.faults("static under a plain one", Trees.pair(9, 1, 1), 1, 1, 1, 0);
+        due.faults("plain under a static one", Trees.pair(1, 9, 1), 1, 1, 1, 0);
+        due.faults("under a protected one", Trees.pair(1, 10, 1), 1, 1, 1, 0);
+        due.faults("under one of the package", Trees.pair(1, 8, 0), 1, 1, 1, 0);
+        due.faults("under one of another package", Trees.pair(1, 8, 1), 1);
+        due.faults("under a private static one", Trees.pair(1, 12, 0), 1);
+        due.faults("static under a private one", Trees.pair(9, 4, 0), 1);
         OverrideRules x = new OverrideRules();
         x.type(Due.INTERFACE, 0, Due.NONE);
         x.type(Due.CLASS, 1, Due.NONE);

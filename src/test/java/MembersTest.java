@@ -98,6 +98,16 @@ public final class MembersTest {
         due.is("OUTSIDE before ROOM", x.member(7, 3, 16, 0), Due.OUTSIDE);
         due.is("OUTSIDE before ROOM", x.member(7, 4, 16, 3), Due.OUTSIDE);
         due.is("sixty", x.told(2), 60);
+        askWhenFull(due, x);
+    }
+
+    private static void askWhenFull(Due due, OverrideRules x) {
         due.is("the last overrides the first of its name", x.overrides(59, 3), 1);
+        due.is("the last hides none", x.hides(59, 3), 0);
+        due.is("the last is chosen", x.chosen(7, 3), 59);
+        due.is("first", x.first(7), 56);
+        due.is("bridges", x.bridges(7), 0);
+        due.is("faults", x.told(3), 0);
+        due.is("clear", x.clear(), 60);
     }
 }

@@ -21,14 +21,8 @@ public final class OverridesTest {
         due.is("UNKNOWN", x.overrides(0, -1), Due.UNKNOWN);
     }
 
-    /** What a member below with mark a is to one above with mark b, in one package. */
     private static int pair(int a, int b, int packet) {
-        OverrideRules x = new OverrideRules();
-        x.type(Due.CLASS, 0, Due.NONE);
-        x.type(Due.CLASS, packet, 0);
-        x.member(0, 0, 16, b);
-        x.member(1, 0, 16, a);
-        return x.overrides(1, 0);
+        return Trees.pair(a, b, packet).overrides(1, 0);
     }
 
     private static void marks(Due due) {
@@ -54,47 +48,42 @@ public final class OverridesTest {
         due.is("not below", x.overrides(2, 0), 0);
     }
 
-    private static OverrideRules chain(int[] packets, int[] marks) {
-        OverrideRules x = new OverrideRules();
-        for (int i = 0; i < packets.length; i++) {
-            x.type(Due.CLASS, packets[i], i - 1);
-            x.member(i, 0, 16, marks[i]);
-        }
-        return x;
-    }
-
     private static void acrossPackages(Due due) {
-        OverrideRules x = chain(new int[] {0, 0, 1}, new int[] {0, 1, 1});
+        OverrideRules x = Trees.chain(new int[] {0, 0, 1}, new int[] {0, 1, 1});
         due.is("through a public one between", x.overrides(2, 0), 1);
-        x = chain(new int[] {0, 0, 1}, new int[] {0, 0, 1});
+        x = Trees.chain(new int[] {0, 0, 1}, new int[] {0, 2, 1});
+        due.is("through a protected one between", x.overrides(2, 0), 1);
+        x = Trees.chain(new int[] {0, 1, 2, 0}, new int[] {0, 1, 1, 0});
+        due.is("its own package stays open", x.overrides(3, 0), 1);
+        x = Trees.chain(new int[] {0, 0, 1}, new int[] {0, 0, 1});
         due.is("the one between is not open", x.overrides(2, 0), 0);
-        x = chain(new int[] {0, 1, 0}, new int[] {0, 0, 0});
+        x = Trees.chain(new int[] {0, 1, 0}, new int[] {0, 0, 0});
         due.is("back in the package", x.overrides(2, 0), 1);
         due.is("not the one between", x.overrides(2, 1), 0);
-        x = chain(new int[] {0, 0, 1}, new int[] {0, 9, 1});
+        x = Trees.chain(new int[] {0, 0, 1}, new int[] {0, 9, 1});
         due.is("a static one between", x.overrides(2, 0), 0);
-        x = chain(new int[] {0, 0, 1}, new int[] {0, 4, 1});
+        x = Trees.chain(new int[] {0, 0, 1}, new int[] {0, 4, 1});
         due.is("a private one between", x.overrides(2, 0), 0);
-        x = chain(new int[] {0, 1, 2}, new int[] {0, 1, 1});
+        x = Trees.chain(new int[] {0, 1, 2}, new int[] {0, 1, 1});
         due.is("the one between does not reach it", x.overrides(2, 0), 0);
     }
 
     private static void throughSeveral(Due due) {
         // 4 reaches 3, which is open; 3 reaches 1 by its package, 1 is open to nobody else,
         // and 1's package is that of 0.
-        OverrideRules x = chain(new int[] {1, 1, 2, 1, 3}, new int[] {0, 0, 0, 1, 1});
+        OverrideRules x = Trees.chain(new int[] {1, 1, 2, 1, 3}, new int[] {0, 0, 0, 1, 1});
         due.is("3 over 1", x.overrides(3, 1), 1);
         due.is("4 over 3", x.overrides(4, 3), 1);
         due.is("4 over 2", x.overrides(4, 2), 0);
         due.is("4 over 1", x.overrides(4, 1), 1);
         due.is("4 over 0", x.overrides(4, 0), 1);
         // Each link opens the next package.
-        x = chain(new int[] {0, 0, 1, 1, 2, 2, 3}, new int[] {0, 1, 0, 1, 0, 1, 1});
+        x = Trees.chain(new int[] {0, 0, 1, 1, 2, 2, 3}, new int[] {0, 1, 0, 1, 0, 1, 1});
         for (int o = 0; o < 6; o++) {
             due.is("the last over " + o, x.overrides(6, o), 1);
         }
         // A package that opens only above o is of no use for o.
-        x = chain(new int[] {0, 1, 0, 2}, new int[] {1, 0, 0, 1});
+        x = Trees.chain(new int[] {0, 1, 0, 2}, new int[] {1, 0, 0, 1});
         due.is("over the open one at the top", x.overrides(3, 0), 1);
         due.is("not over 1", x.overrides(3, 1), 0);
         due.is("not over 2", x.overrides(3, 2), 0);

@@ -5,6 +5,7 @@ public final class ThrowsTest {
         thrownEdges(due);
         throwsEdges(due);
         checkedOnes(due);
+        allowedOnes(due);
         due.end();
     }
 
@@ -39,6 +40,7 @@ public final class ThrowsTest {
             due.is("throws " + i, x.throws0(0, i), 1);
             due.is("again " + i, x.throws0(0, i), 0);
         }
+        due.is("the first is still there", x.throws0(0, 0), 0);
     }
 
     private static void checkedOnes(Due due) {
@@ -62,5 +64,25 @@ public final class ThrowsTest {
         due.faults("one is allowed, one is not", x, 1, 5, 1, 0);
         x.throws0(0, 0);
         due.faults("far above, unchecked, allows both", x, 1);
+    }
+
+    private static void allowedOnes(Due due) {
+        OverrideRules x = new OverrideRules();
+        x.type(Due.CLASS, 0, Due.NONE);
+        x.type(Due.CLASS, 0, 0);
+        x.member(0, 0, 16, 1);
+        x.member(1, 0, 16, 1);
+        x.thrown0(Due.NONE, true);
+        x.thrown0(0, true);
+        x.thrown0(0, true);
+        x.throws0(0, 1);
+        x.throws0(1, 1);
+        due.faults("the same one", x, 1);
+        x.throws0(1, 2);
+        due.faults("one of the same parent", x, 1, 5, 1, 0);
+        x.throws0(0, 2);
+        due.faults("each is allowed by its own", x, 1);
+        x.throws0(1, 0);
+        due.faults("a parent is not allowed by those below it", x, 1, 5, 1, 0);
     }
 }
