@@ -5,7 +5,9 @@ public final class CountsTest {
         wrongInputs(due);
         bridges(due);
         bridgesOfInterfaces(due);
+        bridgesOverAll(due);
         first(due);
+        firstOfNoOverriders(due);
         told(due);
         due.end();
     }
@@ -55,6 +57,13 @@ public final class CountsTest {
         x.member(2, 0, 2, Due.ABSTRACT);
         due.is("a default one", x.bridges(1), 1);
         due.is("an abstract one", x.bridges(2), 0);
+        x = new OverrideRules();
+        x.type(Due.CLASS, 0, Due.NONE);
+        x.type(Due.CLASS, 0, 0);
+        x.member(1, 0, 1, Due.PUBLIC);
+        x.member(0, 0, 0, Due.PUBLIC);
+        due.is("the first member of all, told before the one above", x.bridges(1), 1);
+        due.is("and it is the first of its type", x.first(1), 0);
     }
 
     private static void first(Due due) {
@@ -94,5 +103,50 @@ public final class CountsTest {
         due.is("throws", x.told(1), 2);
         due.is("members", x.told(2), 4);
         due.is("faults of all", x.told(3), 4);
+        x = Trees.full();
+        due.is("types when full", x.told(0), 16);
+        due.is("throws when full", x.told(1), 8);
+        due.is("members when full", x.told(2), 60);
+        int sum = 0;
+        for (int t = 0; t < 16; t++) {
+            sum += x.check(t);
+        }
+        due.is("faults when full", x.told(3), sum);
+    }
+
+    /** Each RESULT that there is, 0 and 19 among them, counts once, and the own one does not. */
+    private static void bridgesOverAll(Due due) {
+        for (int own = 0; own < 20; own++) {
+            OverrideRules x = new OverrideRules();
+            for (int t = 0; t < 16; t++) {
+                x.type(Due.CLASS, 0, t - 1);
+            }
+            for (int t = 0; t < 10; t++) {
+                x.member(t, 0, t, Due.PUBLIC);
+                x.member(t, 1, 10 + t, Due.PUBLIC);
+            }
+            for (int t = 10; t < 15; t++) {
+                x.member(t, 0, t % 3, Due.PUBLIC);
+            }
+            x.member(15, 0, own, Due.PUBLIC);
+            due.is("over 0 to 9, own " + own, x.bridges(15), own < 10 ? 9 : 10);
+            x.member(15, 1, own, Due.PUBLIC);
+            due.is("over 10 to 19 too, own " + own, x.bridges(15), 19);
+        }
+    }
+
+    /** "NONE: it has none": no MEMBERS; one that OVERRIDES none is still the first. */
+    private static void firstOfNoOverriders(Due due) {
+        for (int kind = 0; kind < 3; kind++) {
+            OverrideRules x = new OverrideRules();
+            x.type(kind, 0, Due.NONE);
+            x.type(kind, 0, Due.NONE);
+            due.is("no members at all", x.first(0), Due.NONE);
+            x.member(1, 0, 16, Due.STATIC);
+            due.is("only another type has some", x.first(0), Due.NONE);
+            x.member(0, 7, 16, Due.STATIC);
+            x.member(0, 0, 16, Due.STATIC);
+            due.is("static ones", x.first(0), 1);
+        }
     }
 }

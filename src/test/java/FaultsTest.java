@@ -7,9 +7,14 @@ public final class FaultsTest {
         results(due);
         hidden(due);
         ofItself(due);
+        withoutFaults(due);
         leftAbstract(due);
+        madeAbstractAgain(due);
         metByChance(due);
+        fights(due);
+        interfacesAreSpared(due);
         order(due);
+        mostOfAll(due);
         due.end();
     }
 
@@ -124,6 +129,59 @@ public final class FaultsTest {
         due.faults("marked and overrides none", x, 0, 6, 0, Due.NONE);
     }
 
+    private static void withoutFaults(Due due) {
+        for (int kind = 0; kind < 3; kind++) {
+            OverrideRules x = new OverrideRules();
+            x.type(kind, 0, Due.NONE);
+            due.faults("kind " + kind + ", no members", x, 0);
+            x.member(0, 0, 16, kind == Due.INTERFACE ? Due.DEFAULT : Due.FINAL);
+            due.faults("kind " + kind + ", one that is right", x, 0);
+        }
+    }
+
+    private static void madeAbstractAgain(Due due) {
+        OverrideRules x = new OverrideRules();
+        x.type(Due.CLASS, 0, Due.NONE);
+        x.type(Due.ABSTRACT_CLASS, 0, 0);
+        x.type(Due.CLASS, 0, 1);
+        x.member(0, 0, 16, Due.PUBLIC);
+        x.member(1, 0, 16, Due.PUBLIC | Due.ABSTRACT);
+        due.faults("only for the abstract one", x, 2, 9, 1, 1);
+        x.member(2, 0, 16, Due.PUBLIC);
+        due.faults("and not if it is overridden", x, 2);
+        x = Trees.chain(new int[] {0, 1}, new int[] {Due.ABSTRACT, Due.PUBLIC});
+        due.faults("one of another package can't be", x, 1, 9, 0, 0);
+    }
+
+    /** "8: there is a FIGHT (m is NONE)": of a class, ABSTRACT or not, but of no INTERFACE. */
+    private static void fights(Due due) {
+        for (int kind = 0; kind < 3; kind++) {
+            OverrideRules x = Trees.interfacesAndClass(2, kind);
+            x.face(2, 0);
+            x.face(2, 1);
+            x.member(1, 0, 16, Due.DEFAULT);
+            x.member(0, 0, 17, Due.ABSTRACT);
+            if (kind == Due.INTERFACE) {
+                due.faults("two defaults in an interface", x, 2);
+            } else {
+                due.faults("two defaults in kind " + kind, x, 2, 8, Due.NONE, 0, 8, Due.NONE, 1);
+            }
+            x.member(2, 0, 16, kind == Due.INTERFACE ? Due.DEFAULT : Due.PUBLIC);
+            due.faults("its own one ends it", x, 2, 4, 2, 1);
+        }
+    }
+
+    /** "Then, of a class ..": an INTERFACE may leave all as it is. */
+    private static void interfacesAreSpared(Due due) {
+        OverrideRules x = Trees.interfacesAndClass(2, Due.INTERFACE);
+        x.face(2, 0);
+        x.face(2, 1);
+        x.member(0, 0, 16, Due.ABSTRACT);
+        x.member(1, 0, 17, Due.ABSTRACT);
+        x.member(1, 1, 17, Due.ABSTRACT);
+        due.faults("abstract ones are left", x, 2);
+    }
+
     private static void leftAbstract(Due due) {
         OverrideRules x = new OverrideRules();
         x.type(Due.INTERFACE, 0, Due.NONE);
@@ -195,5 +253,29 @@ public final class FaultsTest {
                 2, 1, 2, 3, 1, 2, 4, 1, 2, 3, 1, 6, 4, 1, 6, 7, 1, Due.NONE,
                 8, Due.NONE, 4, 8, Due.NONE, 5, 9, 7, 7);
         due.is("of all types", x.told(3), 11);
+    }
+
+    /** 60 members of which each of the last four is wrong in all ways with each of 14 above it. */
+    private static void mostOfAll(Due due) {
+        OverrideRules x = new OverrideRules();
+        for (int t = 0; t < 15; t++) {
+            x.type(Due.CLASS, 0, t - 1);
+        }
+        x.thrown0(Due.NONE, true);
+        for (int m = 0; m < 60; m++) {
+            boolean isLast = m >= 56;
+            x.member(m / 4, m % 4, isLast ? 17 : 16, isLast ? Due.PACKAGE : Due.PUBLIC | Due.FINAL);
+            if (isLast) {
+                x.throws0(m, 0);
+            }
+        }
+        due.is("of the last", x.check(14), 4 * 14 * 4);
+        due.is("of the one before", x.check(13), 4 * 13);
+        int last = 4 * 14 * 4 - 1;
+        due.is("the last one's code", x.fault(14, last, 0), 5);
+        due.is("the last one's m", x.fault(14, last, 1), 59);
+        due.is("the last one's o", x.fault(14, last, 2), 55);
+        due.is("no more", x.fault(14, last + 1, 0), Due.NONE);
+        due.is("of all", x.told(3), 4 * 14 * 4 + 4 * (13 * 14 / 2));
     }
 }

@@ -7,6 +7,8 @@ public final class NewAndClearTest {
         due.is("clear of a new one", x.clear(), 0);
         isEmpty(due, "new and cleared", x);
         clearForgetsEverything(due, x);
+        clearCountsMembersAlone(due);
+        fullClearedAndFullAgain(due);
         objectsAreApart(due);
         due.end();
     }
@@ -51,6 +53,33 @@ public final class NewAndClearTest {
         due.is("member", x.member(1, 0, 16, Due.PUBLIC), 1);
         due.is("throws", x.throws0(1, 0), 1);
         due.is("throws", x.throws0(1, 1), 1);
+    }
+
+    private static void clearCountsMembersAlone(Due due) {
+        OverrideRules x = Trees.interfacesAndClass(3, Due.CLASS);
+        x.thrown0(Due.NONE, true);
+        due.is("types and throws, but no members", x.clear(), 0);
+        isEmpty(due, "they are gone", x);
+    }
+
+    private static void fullClearedAndFullAgain(Due due) {
+        OverrideRules x = Trees.full();
+        due.is("clear of a full one", x.clear(), 60);
+        isEmpty(due, "full and cleared", x);
+        for (int i = 0; i < 60; i++) {
+            if (i < 16) {
+                due.is("type " + i, x.type(Due.CLASS, 0, Due.NONE), i);
+            }
+            if (i < 8) {
+                due.is("throw " + i, x.thrown0(i - 1, true), i);
+            }
+            due.is("member " + i, x.member(i / 8, i % 8, 16, 0), i);
+        }
+        due.is("no 17th type", x.type(Due.CLASS, 0, Due.NONE), Due.ROOM);
+        due.is("no 9th throw", x.thrown0(Due.NONE, true), Due.ROOM);
+        due.is("no 61st member", x.member(15, 0, 16, 0), Due.ROOM);
+        due.is("nothing of the first time is wrong", x.told(3), 0);
+        due.is("clear again", x.clear(), 60);
     }
 
     private static void objectsAreApart(Due due) {

@@ -6,6 +6,7 @@ public final class OverridesTest {
         marks(due);
         acrossPackages(due);
         throughSeveral(due);
+        throughAllSixteen(due);
         interfaces(due);
         due.end();
     }
@@ -27,6 +28,10 @@ public final class OverridesTest {
 
     private static void marks(Due due) {
         due.is("public, public", pair(1, 1, 0), 1);
+        due.is("the other way", Trees.pair(1, 1, 0).overrides(0, 1), 0);
+        due.is("private, private", pair(4, 4, 0), 0);
+        due.is("protected, package", pair(2, 0, 0), 1);
+        due.is("protected, package elsewhere", pair(2, 0, 1), 0);
         due.is("private, public", pair(4, 1, 0), 1);
         due.is("public, private", pair(1, 4, 0), 0);
         due.is("static, public", pair(9, 1, 0), 0);
@@ -87,6 +92,26 @@ public final class OverridesTest {
         due.is("over the open one at the top", x.overrides(3, 0), 1);
         due.is("not over 1", x.overrides(3, 1), 0);
         due.is("not over 2", x.overrides(3, 2), 0);
+    }
+
+    private static void throughAllSixteen(Due due) {
+        int[] packets = new int[16];
+        int[] marks = new int[16];
+        for (int t = 0; t < 16; t++) {
+            packets[t] = t / 2 % 4;
+            marks[t] = t % 2 == 0 ? Due.PACKAGE : Due.PUBLIC;
+        }
+        OverrideRules x = Trees.chain(packets, marks);
+        for (int o = 0; o < 15; o++) {
+            due.is("the last of 16 over " + o, x.overrides(15, o), 1);
+        }
+        // One link that is not open, and all in other packages than the last's are out of reach.
+        marks[13] = Due.PACKAGE;
+        x = Trees.chain(packets, marks);
+        due.is("13 is not reached", x.overrides(15, 13), 0);
+        due.is("nor 12", x.overrides(15, 12), 0);
+        due.is("but 11, which is public", x.overrides(15, 11), 1);
+        due.is("and 10, through that", x.overrides(15, 10), 1);
     }
 
     private static void interfaces(Due due) {
