@@ -209,5 +209,11 @@ public final class ChosenTest {
         x.member(15, 7, 16, Due.PUBLIC);
         due.is("the lowest has one", x.chosen(15, 0), 2);
         due.is("which does not override it", x.chosen(15, 1), 1);
+        x = new OverrideRules();
+        for (int t = 0; t < 16; t++) {
+            x.type(Due.CLASS, 0, t - 1);
+        }
+        x.member(0, 0, 16, Due.PUBLIC);
+        due.is("the first of 16 classes has the only one", x.chosen(15, 0), 0);
     }
 }
